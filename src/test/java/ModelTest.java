@@ -41,7 +41,7 @@ final class ModelTest {
         culprit = any(40);
         for (; calls < CALLS; calls++) {
             if (manyRecords ? any(8) > 0 : any(3) == 0) {
-                change(any(30));
+                change(any(manyRecords ? 60 : 30));
             } else if (any(2) == 0) {
                 askOfTriage(any(5));
             } else {

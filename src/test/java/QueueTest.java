@@ -99,6 +99,9 @@ final class QueueTest {
     }
 
     private static void promise12TakeRefuses() {
+        FlakeTriage full = allInTriage(3, 12);
+        full.newDay(1);
+        check.raises("take() without queue, 12 tests", NOT_NOW, () -> full.take());
         FlakeTriage x = allInTriage(3, 1);
         check.refuses(x, "take() without queue and budget", NOT_NOW, () -> x.take());
         x.newDay(1);
