@@ -311,7 +311,7 @@ public final class FlakeTriage {
     // ---- parts and quarantine
 
     private static boolean has(long set, int number) {
-        return (set >> number & 1) != 0;
+        return ((set >> number) & 1) != 0;
     }
 
     private int allPartsOf(int test) {
@@ -388,7 +388,7 @@ public final class FlakeTriage {
     }
 
     private static int weightAt(long candidates, int commit) {
-        int behind = Long.bitCount(candidates >> commit + 1);
+        int behind = Long.bitCount(candidates >> (commit + 1));
         int upToHere = Long.bitCount(candidates) - behind;
         return Math.max(upToHere, behind);
     }
