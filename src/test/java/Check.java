@@ -1,43 +1,71 @@
+import java.util.List;
+import java.util.function.Consumer;
+import java.util.function.Supplier;
+
 /** Counts and prints the answers that are not due; every test of the project ends with end(). */
 final class Check {
+    private static final Class<IndexOutOfBoundsException> NO_SUCH = IndexOutOfBoundsException.class;
+    private static final Class<IllegalArgumentException> BAD_VALUE = IllegalArgumentException.class;
+    private static final Class<IllegalStateException> NOT_NOW = IllegalStateException.class;
+
+    private String name = "";
     private int wrong = 0;
     private int checked = 0;
 
+    /** What is printed from here on tells this name, too. */
+    void begin(String newName) {
+        name = newName + ": ";
+    }
+
     void due(String call, long got, long want) {
-        checked++;
-        if (got != want) {
-            wrong++;
-            System.out.println(call + " answered " + got + ", due is " + want);
-        }
+        due(call, String.valueOf(got), String.valueOf(want));
     }
 
     void due(String call, boolean got, boolean want) {
-        due(call, got ? 1 : 0, want ? 1 : 0);
+        due(call, String.valueOf(got), String.valueOf(want));
     }
 
     void due(String call, String got, String want) {
         checked++;
         if (!got.equals(want)) {
             wrong++;
-            System.out.println(call + " answered " + got + ", due is " + want);
+            System.out.println(name + call + " answered " + got + ", due is " + want);
         }
     }
 
-    /** The call throws just this exception, and nothing that can be asked of the object has changed. */
-    void refuses(FlakeTriage x, String call, Class<? extends RuntimeException> want, Runnable run) {
-        String before = State.of(x);
-        due(call, thrownBy(run), want.getSimpleName());
-        due("what stands after " + call, State.of(x), before);
+    /** The call throws IndexOutOfBoundsException on each of these objects, and changes nothing. */
+    void noSuch(List<Supplier<FlakeTriage>> made, String call, Consumer<FlakeTriage> run) {
+        refused(made, call, NO_SUCH, run);
     }
 
-    /** As refuses, for objects with so much in them that asking for all of it would take too many calls. */
-    void raises(String call, Class<? extends RuntimeException> want, Runnable run) {
-        due(call, thrownBy(run), want.getSimpleName());
+    /** The call throws IllegalArgumentException on each of these objects, and changes nothing. */
+    void badValue(List<Supplier<FlakeTriage>> made, String call, Consumer<FlakeTriage> run) {
+        refused(made, call, BAD_VALUE, run);
     }
 
-    private static String thrownBy(Runnable run) {
+    /** The call throws IllegalStateException on each of these objects, and changes nothing. */
+    void notNow(List<Supplier<FlakeTriage>> made, String call, Consumer<FlakeTriage> run) {
+        refused(made, call, NOT_NOW, run);
+    }
+
+    private void refused(List<Supplier<FlakeTriage>> made, String call, Class<?> want, Consumer<FlakeTriage> run) {
+        int number = 0;
+        for (Supplier<FlakeTriage> make : made) {
+            number++;
+            String where = call + " of object " + number;
+            due(where, thrownBy(run, make.get()), want.getSimpleName());
+            for (Telling telling : Telling.values()) {
+                FlakeTriage without = make.get();
+                FlakeTriage behind = make.get();
+                thrownBy(run, behind);
+                due(telling + " behind " + where, telling.of(behind), telling.of(without));
+            }
+        }
+    }
+
+    private static String thrownBy(Consumer<FlakeTriage> run, FlakeTriage x) {
         try {
-            run.run();
+            run.accept(x);
             return "nothing thrown";
         } catch (RuntimeException e) {
             return e.getClass().getSimpleName();

@@ -1,64 +1,46 @@
-/** Promises 13 to 18: commits, tests, budget, queued, partsOf, touches. */
+/** Promises 13 to 18 in ordinary use; their boundary cases are in EdgesOfWhatThereIsTest. */
 final class WhatThereIsTest {
-    private static final Class<IndexOutOfBoundsException> NO_SUCH = IndexOutOfBoundsException.class;
-
-    private static final Check check = new Check();
-
     public static void main(String[] args) {
-        promises13And14CommitsAndTests();
-        promise15Budget();
-        promise16Queued();
-        promise17PartsOf();
-        promise17PartsOfAlongChain();
-        promise17PartsOfRefuses();
-        promise18Touches();
-        promise18TouchesRefuses();
-        check.end();
+        Cases.run(WhatThereIsTest.class);
     }
 
-    private static void promises13And14CommitsAndTests() {
-        FlakeTriage x = new FlakeTriage();
-        for (int i = 1; i <= 40; i++) {
-            x.addCommit(0);
-            check.due("commits()", x.commits(), i);
-        }
-        check.due("tests() without tests", x.tests(), 0);
-        for (int i = 1; i <= 12; i++) {
-            x.addTest(0);
-            check.due("tests()", x.tests(), i);
-        }
-        check.due("commits() with tests", x.commits(), 40);
+    static void promise13Commits(Check check) {
+        FlakeTriage x = Make.plain(5, 3);
+        check.due("commits()", x.commits(), 5);
+        x.addCommit(1);
+        check.due("commits()", x.commits(), 6);
     }
 
-    private static void promise15Budget() {
-        FlakeTriage x = Make.plain(3, 1);
-        x.triage(0, 0, 2);
-        x.enqueue(0);
-        x.newDay(100);
-        check.due("budget()", x.budget(), 100);
-        for (int left = 99; left >= 0; left--) {
-            x.take();
-            check.due("budget() after a taking", x.budget(), left);
-        }
+    static void promise14Tests(Check check) {
+        FlakeTriage x = Make.plain(5, 3);
+        check.due("tests()", x.tests(), 3);
+        x.addTest(1);
+        check.due("tests()", x.tests(), 4);
+    }
+
+    static void promise15Budget(Check check) {
+        FlakeTriage x = Make.inQueue(3, 2);
+        x.newDay(9);
+        check.due("budget()", x.budget(), 9);
+        x.take();
+        x.take();
+        check.due("budget() behind two takings", x.budget(), 7);
         x.newDay(3);
-        x.newDay(2);
-        check.due("budget() of the later day", x.budget(), 2);
+        check.due("budget() of the next day", x.budget(), 3);
     }
 
-    private static void promise16Queued() {
-        FlakeTriage x = Make.plain(3, 2);
-        x.triage(0, 0, 2);
-        x.triage(1, 0, 2);
-        check.due("queued() with tests in triage alone", x.queued(), 0);
+    static void promise16Queued(Check check) {
+        FlakeTriage x = Make.inTriage(3, 3);
         x.enqueue(1);
         check.due("queued()", x.queued(), 1);
         x.enqueue(0);
-        check.due("queued()", x.queued(), 2);
+        x.enqueue(2);
+        check.due("queued()", x.queued(), 3);
         x.close(1);
-        check.due("queued() after a close", x.queued(), 1);
+        check.due("queued() behind a close", x.queued(), 2);
     }
 
-    private static void promise17PartsOf() {
+    static void promise17PartsOf(Check check) {
         FlakeTriage x = new FlakeTriage();
         x.setUses(0, 2);
         x.setUses(1, 4 + 2);
@@ -77,30 +59,7 @@ final class WhatThereIsTest {
         check.due("partsOf(3) then", x.partsOf(3), 15);
     }
 
-    private static void promise17PartsOfAlongChain() {
-        FlakeTriage up = new FlakeTriage();
-        FlakeTriage down = new FlakeTriage();
-        for (int part = 0; part < 15; part++) {
-            up.setUses(part, 1 << part + 1);
-            down.setUses(part + 1, 1 << part);
-        }
-        up.addTest(1);
-        down.addTest(32768);
-        check.due("partsOf(0) along a chain upwards", up.partsOf(0), 65535);
-        check.due("partsOf(0) along a chain downwards", down.partsOf(0), 65535);
-        down.setUses(1, 0);
-        check.due("partsOf(0) along a shorter chain", down.partsOf(0), 65534);
-    }
-
-    private static void promise17PartsOfRefuses() {
-        FlakeTriage x = Make.plain(3, 1);
-        check.refuses(x, "partsOf(-1)", NO_SUCH, () -> x.partsOf(-1));
-        check.refuses(x, "partsOf(1)", NO_SUCH, () -> x.partsOf(1));
-        check.refuses(x, "partsOf(greatest)", NO_SUCH, () -> x.partsOf(Integer.MAX_VALUE));
-        check.refuses(x, "partsOf(least)", NO_SUCH, () -> x.partsOf(Integer.MIN_VALUE));
-    }
-
-    private static void promise18Touches() {
+    static void promise18Touches(Check check) {
         FlakeTriage x = new FlakeTriage();
         for (int test = 0; test < 12; test++) {
             x.addTest(1 << test);
@@ -118,13 +77,5 @@ final class WhatThereIsTest {
         check.due("touches(3) as parts use each other then", x.touches(3), 32 + 64);
         x.setUses(6, 0);
         check.due("touches(3) as they do no longer", x.touches(3), 0);
-    }
-
-    private static void promise18TouchesRefuses() {
-        FlakeTriage x = Make.plain(2, 3);
-        check.refuses(x, "touches(-1)", NO_SUCH, () -> x.touches(-1));
-        check.refuses(x, "touches(2)", NO_SUCH, () -> x.touches(2));
-        check.refuses(x, "touches(greatest)", NO_SUCH, () -> x.touches(Integer.MAX_VALUE));
-        check.refuses(x, "touches(least)", NO_SUCH, () -> x.touches(Integer.MIN_VALUE));
     }
 }
