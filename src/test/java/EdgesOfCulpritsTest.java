@@ -499,6 +499,15 @@ final class EdgesOfCulpritsTest {
         check.due("next(0) of two candidates", x.next(0), 38);
     }
 
+    static void promise28TwoCandidatesFarApart(Check check) {
+        int[] parts = new int[40];
+        parts[1] = 1;
+        parts[39] = 1;
+        FlakeTriage x = changing(parts);
+        check.due("candidates(0)", x.candidates(0), (1L << 39) + 2);
+        check.due("next(0)", x.next(0), 1);
+    }
+
     static void promise28ARunMakesLessDifferenceThanTheWeight(Check check) {
         FlakeTriage x = Make.inTriage(5, 1);
         x.setNoise(20);

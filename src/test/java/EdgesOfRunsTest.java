@@ -211,6 +211,16 @@ final class EdgesOfRunsTest {
         }
     }
 
+    static void promise8TheRunsStay(Check check) {
+        FlakeTriage x = Make.fullOfRuns();
+        check.due("triage(1, 0, 3) in place of one", x.triage(1, 0, 3), 1);
+        check.due("runs(1)", x.runs(1), 200);
+        check.due("verdict(1, 1)", x.verdict(1, 1), 1);
+        check.due("verdict(1, 2)", x.verdict(1, 2), 2);
+        check.due("contradictions(1, 2)", x.contradictions(1, 2), 0);
+        check.due("contradictions(1, 3)", x.contradictions(1, 3), 60);
+    }
+
     static void promise8InTriageAgainBehindClose(Check check) {
         FlakeTriage x = Make.inQueue(5, 2);
         x.close(0);
